@@ -707,11 +707,11 @@ public final class SaidByTimes {
                 return;
             }
             next();
-            int first = readNew(0);
+            int first = readNumber(2, GREATEST_NUMBER, isNew(0));
             int other = 0;
             if (fault == 0 && isWord("or")) {
                 next();
-                other = readNew(first);
+                other = readNumber(2, GREATEST_NUMBER, isNew(first));
             }
             int sort = readNumber(0, SORTS - 1, true);
             readSign();
@@ -745,9 +745,9 @@ public final class SaidByTimes {
             }
         }
 
-        int readNew(int first) {
-            boolean isNew = value != first && isPrime(value) && !draft.tells(value);
-            return readNumber(2, GREATEST_NUMBER, isNew);
+        /** If a THING can have the NUMBER that stands next, as its second one unlike the first. */
+        boolean isNew(int first) {
+            return value != first && isPrime(value) && !draft.tells(value);
         }
 
         int readNumber(int low, int high, boolean fits) {
@@ -781,7 +781,7 @@ public final class SaidByTimes {
 
         void next() {
             begin = pastRun(end, BLANK);
-            token = typeAt(begin);
+            token = typeOf(tape.byteAt(begin));
             end = token == NAME || token == NUMBER ? pastRun(begin, token) : begin;
             if (token == SIGN) {
                 end = begin + 1;
@@ -794,7 +794,7 @@ public final class SaidByTimes {
 
         int pastRun(int from, int type) {
             int i = from;
-            while (i < LONGEST_TAPE && typeAt(i) == type) {
+            while (i < LONGEST_TAPE && typeOf(tape.byteAt(i)) == type) {
                 i++;
             }
             return i;
@@ -808,8 +808,7 @@ public final class SaidByTimes {
             return number;
         }
 
-        int typeAt(int i) {
-            int b = tape.byteAt(i);
+        static int typeOf(int b) {
             if (b < 0) {
                 return END;
             }

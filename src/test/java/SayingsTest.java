@@ -99,6 +99,11 @@ public final class SayingsTest {
         Checks.due("SLOT that holds none", x.heard(4, 0), Checks.STATE);
         Checks.due("BAD ahead of STATE", x.heard(4, -2), Checks.BAD);
         Checks.due("what was heard stays", x.said(0), 30);
+        x.put(0, 95);
+        heardAre(x, 0, 15, 25, 45, 75, 90, 96);
+        SaidByTimes y = Checks.speaking("thing 3 0;thing 23 0;thing 29 0;");
+        y.put(0, 2002);
+        heardAre(y, 0, 2001);
     }
 
     private static void heardAtTheEdges() {
@@ -174,6 +179,10 @@ public final class SayingsTest {
         // THING 2 gets the 199, THINGS 0 and 1 the 197 and the 2
         Checks.ints(x, 0, 3, 3, 1, 0, 0, 3);
         deal(x, 3, 2, 394L * 394 * 394 * 199 + 199L * 199 * 199, 1, 2, 0);
+        // the second saying is TOO LONG, and does not count once it is told no more
+        Checks.ints(x, 0, 0, 0, 1, 0, 3, 3, 3, 3);
+        deal(x, 4, 2, Checks.NONE);
+        deal(x, 4, 1, 2, 0, 1, 2, 3);
         // 2 by 193 and 3 by 191 are less than 2 by 191 and 3 by 193
         Checks.ints(x, 0, 3, 3, 0, 0, 0, 0, 0, 0, 3, 3, 0, 0);
         deal(x, 6, 2, 386L * 386 * 386 + 573L * 573 * 573, 2, 3, 4, 5, 0, 1);
@@ -199,6 +208,9 @@ public final class SayingsTest {
         Checks.due("PLACE ahead of an ITEM", x.dealt(0, 3, 3, 0), Checks.PLACE);
         Checks.due("an ITEM of 4", x.dealt(0, 3, 2, 0), Checks.BAD);
         Checks.due("an ITEM behind them does not count", x.dealt(0, 2, 2, -1), 9 * 2 + 8);
+        x.set(0, 5, 3);
+        Checks.due("an ITEM of 4 alone", x.dealt(0, 3, 2, -1), Checks.BAD);
+        x.set(0, 5, -1);
         x.set(0, 4, 3);
         Checks.due("an ITEM of -1", x.dealt(0, 2, 3, -1), Checks.BAD);
         SaidByTimes seven = Checks.speaking(

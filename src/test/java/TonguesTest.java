@@ -101,6 +101,16 @@ public final class TonguesTest {
         fault("things 2 0;", 1, 0);
         fault("Thing 2 0;", 1, 0);
         fault("thing;", 1, 5);
+        fault("thinga 2 0;", 1, 0);
+        fault("thingz 2 0;", 1, 0);
+        fault("xhing 2 0;", 1, 0);
+        fault("thinx 2 0;", 1, 0);
+        fault("thing 2 0;xule 0 1 1;", 1, 10);
+        fault("thing 2 0?", 1, 9);
+        fault("thing 2 0:", 1, 9);
+        fault("thing 2 or/3 0;", 1, 10);
+        fault("thing 2 o`3 0;", 1, 8);
+        fault("thing 2 0;{", 1, 10);
         fault("thing or 2 0;", 1, 6);
         fault("thing 2;", 1, 7);
         fault("thing 2 or;", 1, 10);
@@ -156,6 +166,7 @@ public final class TonguesTest {
         fault("thing 2 0;rule 0 1 10;", 2, 19);
         fault("thing 2 0;rule 0 2 1;", 2, 19);
         fault("thing 2 0;rule 0 1 1;rule 0 1 1;", 2, 26);
+        fault("thing 2 0;rule 0 1 1;rule 1 1 1;rule 2 1 1;rule 3 1 1;rule 4 1 1;rule 3 1 1;", 2, 70);
         fault("thing 2 0;pair 0 0;", 2, 17);
         fault("thing 2 0;pair 1 0;", 2, 15);
         fault("thing 2 0;pair 0 1;", 2, 17);
@@ -256,6 +267,7 @@ public final class TonguesTest {
         Checks.due("say 5 7 2", x.say(1, 0, 2, 3), 70);
         Checks.due("say nothing", x.say(2, 0, 3, 0), 1);
         Checks.due("say nothing from the end", x.say(3, 0, 11, 0), 1);
+        Checks.due("nothing is the SAYING 1", x.said(3), 1);
         Checks.due("say anew", x.say(0, 0, 3, 1), 7);
         Checks.due("said(0)", x.said(0), 7);
         for (int i = 5; i < 11; i++) {
@@ -265,6 +277,13 @@ public final class TonguesTest {
         x.row(1, 0, 40);
         Checks.due("20 THINGS", x.say(0, 1, 20, 20), 1048576);
         Checks.due("21 THINGS", x.say(0, 1, 0, 21), Checks.BAD);
+        x.set(0, 0, 20);
+        Checks.tongue(x, "thing 5 or 11 0;");
+        Checks.due("THING 0 by its other NUMBER", x.say(0, 0, 0, 1), 11);
+        Checks.due("a THING of the TONGUE before", x.say(0, 0, 1, 1), Checks.BAD);
+        Checks.due("the other NUMBER of one", x.say(0, 0, 3, 1), Checks.BAD);
+        x.put(0, 5 * 3 * 7);
+        Checks.due("what the TONGUE before told is REST", x.apart(0, -1), 21);
         SaidByTimes none = new SaidByTimes();
         none.row(0, 0, 3);
         Checks.due("nothing, without a TONGUE", none.say(0, 0, 0, 0), 1);
