@@ -10,21 +10,33 @@ final class Checks {
     static final long KIND = NOT - 13;
     static final long SIZE = NOT - 14;
     static final long STORE = NOT - 15;
+    static final long LONGEST = 1000000000000000L;
 
     private static int asDue;
     private static int wrong;
+    private static String sentence = "";
 
     private Checks() {
+    }
+
+    /** From now on what is wrong is told with this sentence ahead. */
+    static void about(String newSentence) {
+        sentence = newSentence.isEmpty() ? "" : newSentence + " ";
     }
 
     static void due(String what, long got, long want) {
         if (got == want) {
             asDue++;
         } else {
-            wrong++;
-            if (wrong <= 50) {
-                System.out.println(what + " answered " + got + ", due is " + want);
-            }
+            wrong(what + " answered " + got + ", due is " + want);
+        }
+    }
+
+    static void dueText(String what, String got, String want) {
+        if (got.equals(want)) {
+            asDue++;
+        } else {
+            wrong(what + "\n  was " + got + "\n  due " + want);
         }
     }
 
@@ -32,8 +44,19 @@ final class Checks {
         due(what, holds ? 1 : 0, 1);
     }
 
+    private static void wrong(String told) {
+        wrong++;
+        if (wrong <= 50) {
+            System.out.println(sentence + told);
+        }
+    }
+
     static int wrongSoFar() {
         return wrong;
+    }
+
+    static int lookedAtSoFar() {
+        return asDue + wrong;
     }
 
     /** Ends the test: exit code 1 if an answer was wrong, or if nothing was looked at. */

@@ -44,7 +44,10 @@ public final class ModelTest {
 
     private void due(String call, long got, long want) {
         calls++;
-        Checks.due("run " + run + ", call " + calls + ": " + call, got, want);
+        // What later calls answer is free.
+        if (calls <= CALLS) {
+            Checks.due("run " + run + ", call " + calls + ": " + call, got, want);
+        }
     }
 
     /** A number from low to high, at times beyond or far beyond. */
