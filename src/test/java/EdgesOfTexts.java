@@ -74,6 +74,9 @@ final class EdgesOfTexts {
         faulty("Thing 2 0;", 1, 0);
         faulty("thinG 2 0;", 1, 0);
         faulty("thing`2 0;", 1, 5);
+        faulty("thingA", 1, 5);
+        faulty("thing 2 orZ 3 0;", 1, 10);
+        faulty("thing 2 0;thingA", 1, 15);
         faulty("thing{2 0;", 1, 5);
         faulty("thing_2 0;", 1, 5);
         faulty("thing 2 or" + (char) 225 + "3 0;", 1, 10);

@@ -615,8 +615,13 @@ final class EdgesOfTwo {
         SaidByTimes above = Checks.speaking("thing 2 0;thing 7 0;thing 11 0;thing 13 0;thing 19 0;thing 37 0;"
             + "thing 67 0;thing 79 0;thing 127 0;thing 139 or 151 0;");
         sameAre(above, 1000000000961962L / 151 * 139, 1);
-        // By 64 bits 2 and 43 make a number between 1 and the longest out of one that is TOO LONG.
+        // By 64 bits some of these that are TOO LONG come out between 1 and the longest, or below 0.
         sameAre(Checks.speaking("thing 2 or 43 0;"), 1L << 37, 3);
+        sameAre(Checks.speaking("thing 41 or 2 0;"), 1L << 49, 1);
+        sameAre(Checks.speaking("thing 2 or 103 0;"), 1L << 24, 5);
+        sameAre(Checks.speaking("thing 2 or 181 0;"), 1L << 40, 2);
+        sameAre(Checks.speaking("thing 3 or 2 0;"), 1L << 40, 17);
+        sameAre(Checks.speaking("thing 2 or 7 0;"), 1L << 24, 15);
         Document.says("3", "NONE: its REST is not 1.");
         sameAre(x, 7, -1000000);
         sameAre(x, 2 * 7, Checks.NONE);
