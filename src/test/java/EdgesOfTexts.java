@@ -233,7 +233,11 @@ final class EdgesOfTexts {
         faulty("thing 2 0;rule 0 0 1;rule 0 0 1;", 2, 26);
         faulty("thing 2 0;rule 0 0 1;rule 1 0 1;rule 000 0 1;", 2, 37);
         faulty("thing 2 0;rule 0 0 1;rule 4 0 1;rule 2 0 1;rule 3 0 1;rule 1 0 1;rule 1 0 1;", 2, 70);
+        read("thing 2 0;rule 4 0 1;rule 3 0 1;rule 2 0 1;rule 1 0 1;rule 0 0 1;", 1, 5, 0);
         due("the SORT of a rule that another TONGUE had", Checks.tongue(x, "thing 2 0;rule 1 0 0;"), 1);
+        Checks.tongue(x, "thing 2 0;rule 4 0 1;rule 3 0 1;rule 2 0 1;rule 1 0 1;rule 0 0 1;");
+        due("SORTS of rules that another TONGUE had", Checks.tongue(x, "thing 2 0;rule 1 0 0;rule 0 0 0;"), 1);
+        due("so many rules", x.count(2), 2);
     }
 
     private static void pairs() {
@@ -278,6 +282,16 @@ final class EdgesOfTexts {
         due("THING 1 is none", x.apart(0, 1), Checks.BAD);
         x.put(0, 49);
         due("the rules before are none", x.apart(0, -2), 1);
+        Checks.tongue(x, "thing 2 or 3 0;thing 5 or 13 0;thing 11 or 17 0;");
+        Checks.tongue(x, "thing 7 4;");
+        Checks.ints(x, 0, 1, 20, 21, 2, 22);
+        for (int i = 0; i < 5; i++) {
+            due("what stood for a THING before is none: ITEM " + i, x.say(0, 0, i, 1), Checks.BAD);
+        }
+        x.put(0, 3 * 7 * 13 * 17);
+        due("the second NUMBERS before are none", x.apart(0, -1), 3 * 13 * 17);
+        due("the second NUMBERS before are no THINGS", x.signed(0, -1), 1);
+        x.drop(0);
         Document.says("1", "no SAYINGS are kept;");
         for (int slot = 0; slot <= 7; slot++) {
             x.put(slot, 7);
@@ -333,6 +347,10 @@ final class EdgesOfTexts {
         faulty("thing 2 0;or 3", 1, 10);
         faulty("thing 2 0;3", 1, 10);
         faulty("thing 2 0;rules 0 0 1;", 1, 10);
+        oneLetterElse("thing", "", " 2 0;");
+        oneLetterElse("or", "thing 2 ", " 3 0;");
+        oneLetterElse("rule", "thing 2 0;", " 0 0 1;");
+        oneLetterElse("pair", TWO, " 0 1;");
         faulty("thing 2 0;rule or 0 1;", 1, 15);
         faulty("thing 2 0;rule 0 ; 1;", 1, 17);
         faulty("thing 2 0;rule 0 0 rule;", 1, 19);
@@ -364,6 +382,16 @@ final class EdgesOfTexts {
         faulty("thing 2 0 \n\n", 1, 12);
         faulty("thing 2 or", 1, 10);
         faulty(TWO + "pair 0 ", 1, 27);
+    }
+
+    /** Each letter of a word counts: with another in its place it is another NAME. */
+    private static void oneLetterElse(String word, String ahead, String behind) {
+        read(ahead + word + behind, ahead.equals(TWO) ? 2 : 1, word.equals("rule") ? 1 : 0, word.equals("pair") ? 1 : 0);
+        for (int i = 0; i < word.length(); i++) {
+            faulty(ahead + word.substring(0, i) + "x" + word.substring(i + 1) + behind, 1, ahead.length());
+        }
+        faulty(ahead + word.substring(0, word.length() - 1) + behind, 1, ahead.length());
+        faulty(ahead + word.substring(1) + behind, 1, ahead.length());
     }
 
     private static void faultsOfTheRest() {
