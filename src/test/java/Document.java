@@ -2,7 +2,9 @@ import java.io.IOException;
 import java.nio.charset.StandardCharsets;
 import java.nio.file.Files;
 import java.nio.file.Path;
+import java.util.ArrayList;
 import java.util.LinkedHashMap;
+import java.util.List;
 import java.util.Map;
 import java.util.regex.Matcher;
 import java.util.regex.Pattern;
@@ -14,6 +16,11 @@ import java.util.regex.Pattern;
 final class Document {
     private static final Pattern PROMISE = Pattern.compile("(?s)## (Promise \\d+): [^\n]*\n(.*?)(?=\n## )");
     private static final Pattern FACE = Pattern.compile("^`[^`]*`:");
+    private static final Pattern HEADED = Pattern.compile(
+        "Ahead of the calls ([^\n]*) the interface says: (---- [^\n]*)\\.\n");
+
+    private static final List<String> MEMBERS = new ArrayList<>();
+    private static final Map<String, List<String>> HEADS = new LinkedHashMap<>();
 
     /** What is left of each section when the sentences that were named are taken out. */
     private static final Map<String, StringBuilder> LEFT = new LinkedHashMap<>();
@@ -36,6 +43,25 @@ final class Document {
             keep(promise.group(1), promise.group(2));
         }
         Checks.due("sections of the document", LEFT.size(), 5 + 27);
+        readFace(text);
+    }
+
+    private static void readFace(String text) {
+        between(text, "```java\n", "\n}\n```").lines().forEach(line -> MEMBERS.add(line.trim()));
+        Matcher headed = HEADED.matcher(text);
+        while (headed.find()) {
+            HEADS.put(headed.group(2), List.of(headed.group(1).replace("`", "").split(", ")));
+        }
+    }
+
+    /** The lines of the public face, the class first; none, if there is no document. */
+    static List<String> members() {
+        return MEMBERS;
+    }
+
+    /** What the interface says ahead of which calls. */
+    static Map<String, List<String>> heads() {
+        return HEADS;
     }
 
     private static String between(String text, String from, String to) {

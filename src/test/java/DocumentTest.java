@@ -3,8 +3,8 @@ import java.nio.file.Files;
 import java.nio.file.Path;
 
 /**
- * Every sentence of the document has a test of its own, which names it. The second argument is
- * the way to the document; without one the tests run, but no text is compared with their names.
+ * Every sentence of the document has a test of its own, which names it. The arguments are the
+ * ways to the program and to the document; without one the tests run, but no text is compared.
  */
 public final class DocumentTest {
     private DocumentTest() {
@@ -15,6 +15,9 @@ public final class DocumentTest {
             Document.read(Path.of(args[1]));
         } else {
             System.out.println("there is no document: whether each sentence is named is not looked at");
+        }
+        if (args.length > 0) {
+            FaceOfProgram.all(Files.readString(Path.of(args[0])));
         }
         EdgesOfRows.all();
         EdgesOfTexts.all();
