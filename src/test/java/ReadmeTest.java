@@ -16,6 +16,8 @@ import java.util.stream.Stream;
 public final class ReadmeTest {
     private static final Pattern BLOCK = Pattern.compile("(?ms)^```(\\w*)\n(.*?)^```$");
     private static final Pattern PUBLIC = Pattern.compile("public (?:long|int) (\\w+)\\(([^)]*)\\)");
+    private static final Pattern KIND = Pattern.compile(
+        "(?m)^\\| (\\d) [A-Z]+ \\| [^|]* \\| ([\\d, ]+) \\| BODY (\\d+) \\| BODY (\\d+) \\|$");
     private static final Pattern SHOWN = Pattern.compile("(?m)^(\\w+)\\(");
 
     private ReadmeTest() {
@@ -33,6 +35,7 @@ public final class ReadmeTest {
         callsAreTold(Files.readString(program), readme);
         testsAreTold(Path.of(args[2]).toAbsolutePath().resolveSibling("src/test/java"), readme);
         refusalsAreTold(readme);
+        kindsAreTold(readme);
         Checks.end();
     }
 
@@ -72,7 +75,7 @@ public final class ReadmeTest {
 
     private static String printedBy(Path place, String commands) throws IOException, InterruptedException {
         Process run = new ProcessBuilder("sh", "-e", "-c", commands)
-            .directory(place.toFile()).redirectErrorStream(true).start();
+            .directory(place.toFile()).redirectError(ProcessBuilder.Redirect.INHERIT).start();
         String printed = new String(run.getInputStream().readAllBytes());
         Checks.due("exit code of: " + commands, run.waitFor(), 0);
         return printed;
@@ -131,5 +134,29 @@ public final class ReadmeTest {
             String told = "\n| `NOT - " + (Checks.NOT - answers[i]) + "` | " + names[i] + " | ";
             Checks.dueTrue("README.md tells" + told.strip(), readme.contains(told));
         }
+    }
+
+    private static void kindsAreTold(String readme) {
+        // By KINDS: THINGS 0 and 1 are 2 and 3, and may not stand together.
+        long[] sayings = {0, 4, 2, 6, 5, 8};
+        SaidByTimes x = Checks.speaking("thing 2 0; thing 3 0; pair 0 1;");
+        int kinds = 0;
+        for (Matcher m = KIND.matcher(readme); m.find(); kinds++) {
+            int told = Integer.parseInt(m.group(1));
+            x.put(0, told < sayings.length ? sayings[told] : 1);
+            Checks.due("README.md tells KIND " + told, x.kind(0), told);
+            List<String> is = new ArrayList<>(List.of(m.group(2).split(", ")));
+            is.add(m.group(1));
+            for (int kind = 0; kind < 6; kind++) {
+                long due = is.contains(String.valueOf(kind)) ? 0 : Checks.KIND;
+                Checks.due("README.md tells KIND " + told + " as " + kind, x.as(0, kind), due);
+            }
+            for (int what = 0; what < 2; what++) {
+                x.ask(0, what);
+                Checks.due("README.md tells what begins of KIND " + told + ", ask " + what,
+                    x.trace(0), Integer.parseInt(m.group(3 + what)));
+            }
+        }
+        Checks.due("KINDS that README.md tells", kinds, 5);
     }
 }
